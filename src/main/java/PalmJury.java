@@ -76,7 +76,7 @@ public final class PalmJury {
         if (!now.has(one) || !now.has(other) || one == other) {
             return BAD;
         }
-        int fact = now.passes(one, other);
+        int fact = Kinds.passes(now, one, other);
         return fact == 0 ? NONE : Integer.bitCount(fact - 1);
     }
 
@@ -685,13 +685,14 @@ public final class PalmJury {
             return held(asJuror + push, 0, 100);
         }
 
-        /** Of a set of facts that could be told the one that is, as a set of one; 0: none. */
-        static int choice(int kind, int facts, int swaying) {
-            switch (kind) {
+        /** The fact that one juror tells another one, as a set of one; 0: none. */
+        static int passes(Jury jury, int one, int other) {
+            int facts = jury.knows[one] & ~jury.knows[other];
+            switch (jury.kind[one]) {
                 case DOUBTING:
                 case FOREMAN: return greatest(facts);
                 case SWAYED:
-                case TWIN: return least(facts & swaying);
+                case TWIN: return least(facts & jury.swaying());
                 case MUTE: return 0;
                 default: return least(facts);
             }
@@ -799,12 +800,8 @@ public final class PalmJury {
             return size < 1 ? juror : Math.floorMod(hour + turn - juror, size);
         }
 
-        /** The fact that one juror tells another one, as a set of one; 0: none. */
-        int passes(int one, int other) {
-            return Kinds.choice(kind[one], knows[one] & ~knows[other], swaying());
-        }
-
-        private int swaying() {
+        /** The facts with a weight above 0. */
+        int swaying() {
             int facts = 0;
             for (int fact = 0; fact < MOST_FACTS; fact++) {
                 if (weight[fact] > 0) {
@@ -840,9 +837,9 @@ public final class PalmJury {
         }
 
         private int palms(int one, int other, int silent) {
-            // Both choose before either learns: the second one must not answer with what it has just been told.
-            int first = one == silent ? 0 : passes(one, other);
-            int second = other == silent ? 0 : passes(other, one);
+            // Both choose ahead of the hour's telling, as the document has it, and only then learn.
+            int first = one == silent ? 0 : Kinds.passes(this, one, other);
+            int second = other == silent ? 0 : Kinds.passes(this, other, one);
             knows[other] |= first;
             knows[one] |= second;
             int byOne = first == 0 ? 0 : 1;
@@ -877,7 +874,9 @@ public final class PalmJury {
         int votes() {
             int sum = 0;
             for (int i = 0; i < size; i++) {
-                sum += verdict(i);
+                if (believes(i) >= bar) {
+                    sum++;
+                }
             }
             return sum;
         }
@@ -923,7 +922,7 @@ public final class PalmJury {
         }
 
         Law at(int text) {
-            return all[held(text, 0, MOST_TEXTS - 1)];
+            return all[text >= 0 && text < MOST_TEXTS ? text : 0];
         }
 
         /** What a text gives, with the values of its key's names in their order. */
@@ -989,7 +988,7 @@ public final class PalmJury {
                     if (top < 1) {
                         return 0;
                     }
-                    stack[top - 1] = truth(stack[top - 1] == 0);
+                    stack[top - 1] = stack[top - 1] == 0 ? 1 : 0;
                 } else {
                     if (top < 2) {
                         return 0;
@@ -1015,16 +1014,12 @@ public final class PalmJury {
                 case '-': return a - b;
                 case '*': return a * b;
                 case '/': return b == 0 ? 0 : a / b;
-                case '<': return truth(a < b);
-                case '=': return truth(a == b);
-                case '>': return truth(a > b);
-                case '&': return truth(a != 0 && b != 0);
-                default: return truth(a != 0 || b != 0);
+                case '<': return a < b ? 1 : 0;
+                case '=': return a == b ? 1 : 0;
+                case '>': return a > b ? 1 : 0;
+                case '&': return a != 0 && b != 0 ? 1 : 0;
+                default: return a != 0 || b != 0 ? 1 : 0;
             }
-        }
-
-        private static int truth(boolean holds) {
-            return holds ? 1 : 0;
         }
     }
 
