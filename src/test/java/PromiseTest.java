@@ -386,6 +386,11 @@ public final class PromiseTest {
         is("14 any", x.jury(4), 0b11111);
         is("14 what", x.jury(-1), BAD);
         is("14 what", x.jury(5), BAD);
+        PalmJury ten = jury(new int[10], new int[] {129, 131, 129, 145, 129, 129, 129, 129, 193, 128});
+        int[] ofTen = {128, 10, 0, 22, 0b11010011};
+        for (int what = 0; what < 5; what++) {
+            is("14 ten jurors", ten.jury(what), ofTen[what]);
+        }
         PalmJury empty = new PalmJury();
         is("14 nobody", empty.jury(0), 255);
         is("14 nobody", empty.jury(1), 0);
@@ -558,6 +563,10 @@ public final class PromiseTest {
         x.weigh(5, 0);
         x.weigh(7, 10);
         is("19 the last", x.advocate(0, 0), 15);
+        PalmJury wise = jury(new int[] {0, 0}, new int[] {255, 255});
+        text(wise, "trust k*5");
+        wise.rule(0, 41);
+        is("19 there is no ninth fact", wise.advocate(0, 1), 0);
         is("19 n", x.advocate(-1, 0), BAD);
         is("19 n", x.advocate(61, 0), BAD);
         is("19 what", x.advocate(0, -1), BAD);
