@@ -24,6 +24,25 @@ final class Due {
         }
     }
 
+    /** Calls that all answer the same. */
+    void each(String what, long want, long... got) {
+        for (int i = 0; i < got.length; i++) {
+            is(what + ", call " + (i + 1), got[i], want);
+        }
+    }
+
+    /** Calls that answer one thing after the other. */
+    void row(String what, long[] want, long... got) {
+        is(what + ", how many", got.length, want.length);
+        for (int i = 0; i < Math.min(got.length, want.length); i++) {
+            is(what + ", call " + (i + 1), got[i], want[i]);
+        }
+    }
+
+    int seen() {
+        return seen;
+    }
+
     boolean failedAlready() {
         return wrong > 0;
     }

@@ -8,7 +8,8 @@ import java.util.Random;
 
 /** Long runs of calls, by a lot whose seed is fixed: PalmJury and the model answer alike. */
 public final class ModelTest {
-    private static final int RUNS = 1500, CALLS = 500;
+    // An object answers 512 calls: a step of a run, which is begun below CALLS, takes up to some 70.
+    private static final int RUNS = 1700, CALLS = 440;
     private static final int[] EDGES = {Integer.MIN_VALUE, Integer.MAX_VALUE, -2, -1, 0, 1, 24, 25, 60, 61, 100, 101, PalmJury.NONE};
 
     private final Due due = new Due("ModelTest");

@@ -2,7 +2,7 @@
 public final class PromiseTest {
     private static final int BAD = PalmJury.BAD, NO = PalmJury.NO, FULL = PalmJury.FULL, NONE = PalmJury.NONE,
         NOTHING = PalmJury.NOTHING, KIND = PalmJury.KIND, INDEX = PalmJury.INDEX, SIZE = PalmJury.SIZE;
-    private static final int LOW = Integer.MIN_VALUE, HIGH = Integer.MAX_VALUE;
+    private static final int LOW = Acts.LOW, HIGH = Acts.HIGH;
     private static final Due due = new Due("PromiseTest");
 
     public static void main(String[] args) {
@@ -52,39 +52,11 @@ public final class PromiseTest {
         due.is(call, got, want);
     }
 
-    /** Puts a text on the tape, byte by byte. */
-    private static int feedAll(PalmJury x, String s) {
-        x.trim(0);
-        for (int i = 0; i < s.length(); i += 12) {
-            x.feed(four(s, i), four(s, i + 4), four(s, i + 8));
-        }
-        return x.trim(s.length());
-    }
-
-    private static int four(String s, int from) {
-        int v = 0;
-        for (int i = from; i < from + 4; i++) {
-            v = v << 8 | (i < s.length() ? s.charAt(i) : ' ');
-        }
-        return v;
-    }
-
     private static int text(PalmJury x, String s) {
-        is("trim behind " + s, feedAll(x, s), s.length());
+        is("trim behind " + s, Acts.feedAll(x, s), s.length());
         int answer = x.text();
         is("the tape behind " + s, x.count(8), 0);
         return answer;
-    }
-
-    /** A jury whose jurors are of these kinds, know these sets, and never slip. */
-    private static PalmJury jury(int[] kinds, int[] knows) {
-        PalmJury x = new PalmJury();
-        for (int i = 0; i < kinds.length; i++) {
-            x.juror(kinds[i], i % 2, 0);
-            x.set(i, 2, knows[i]);
-        }
-        x.rule(1, 0);
-        return x;
     }
 
     private static void promise1() {
@@ -131,7 +103,7 @@ public final class PromiseTest {
     }
 
     private static void promise3() {
-        PalmJury x = jury(new int[] {0, 0, 0}, new int[] {1, 2, 4});
+        PalmJury x = Acts.jury(new int[] {0, 0, 0}, new int[] {1, 2, 4});
         is("3 juror", x.told(-1, 0), BAD);
         is("3 juror", x.told(3, 0), BAD);
         is("3 what", x.told(0, -1), BAD);
@@ -183,7 +155,7 @@ public final class PromiseTest {
     private static void promise4() {
         int[] least = {1, 5, 3, 5, 3, NONE};
         for (int kind = 0; kind < 6; kind++) {
-            PalmJury x = jury(new int[] {kind, 0}, new int[] {0b101011, 0b000001});
+            PalmJury x = Acts.jury(new int[] {kind, 0}, new int[] {0b101011, 0b000001});
             x.weigh(3, 1);
             x.weigh(1, -1);
             x.weigh(0, 9);
@@ -199,7 +171,7 @@ public final class PromiseTest {
             is("4 other", x.tells(0, -1), BAD);
             is("4 other", x.tells(0, 2), BAD);
         }
-        PalmJury x = jury(new int[] {2, 1}, new int[] {255, 0});
+        PalmJury x = Acts.jury(new int[] {2, 1}, new int[] {255, 0});
         is("4 no weight is above 0", x.tells(0, 1), NONE);
         x.set(1, 2, 128);
         x.set(0, 2, 127);
@@ -303,7 +275,7 @@ public final class PromiseTest {
     }
 
     private static void promise12() {
-        PalmJury x = jury(new int[] {0, 1, 2, 5}, new int[] {0, 0, 0, 8});
+        PalmJury x = Acts.jury(new int[] {0, 1, 2, 5}, new int[] {0, 0, 0, 8});
         is("12 shown", x.out(3, 0), 2);
         is("12 said", x.out(3, 1), 1);
         is("12 again", x.out(3, 1), 0);
@@ -318,7 +290,7 @@ public final class PromiseTest {
     }
 
     private static void promise13() {
-        PalmJury x = jury(new int[] {0, 1, 5}, new int[] {0b11, 0b1100, 0b10000});
+        PalmJury x = Acts.jury(new int[] {0, 1, 5}, new int[] {0b11, 0b1100, 0b10000});
         // Hour 0: 0 rests, 1 with 2; hour 1: 0 with 1, 2 rests; hour 2: 0 with 2, 1 rests.
         is("13 hour 0", x.hours(1), 1);
         is("13 told", x.told(2, 2), 0b11000);
@@ -330,7 +302,7 @@ public final class PromiseTest {
         is("13 passed", x.told(0, 4), 2);
         is("13 passed", x.told(1, 4), 2);
         is("13 passed", x.told(2, 4), 0);
-        PalmJury mute = jury(new int[] {5, 0}, new int[] {1, 2});
+        PalmJury mute = Acts.jury(new int[] {5, 0}, new int[] {1, 2});
         mute.hours(2);
         is("13 the mute one heard", mute.told(0, 2), 3);
         is("13 the mute one passed none", mute.told(0, 4), 0);
@@ -358,7 +330,7 @@ public final class PromiseTest {
 
     private static void promise13Slips() {
         for (int slip = 0; slip <= 100; slip += 20) {
-            PalmJury x = jury(new int[] {0, 0, 0, 0, 0}, new int[] {255, 0, 0, 0, 0});
+            PalmJury x = Acts.jury(new int[] {0, 0, 0, 0, 0}, new int[] {255, 0, 0, 0, 0});
             x.rule(1, slip);
             int z = 1;
             int slips = 0;
@@ -375,7 +347,7 @@ public final class PromiseTest {
     }
 
     private static void promise14() {
-        PalmJury x = jury(new int[] {0, 0, 4}, new int[] {0b111, 0b1110, 0b10110});
+        PalmJury x = Acts.jury(new int[] {0, 0, 4}, new int[] {0b111, 0b1110, 0b10110});
         x.weigh(0, 20);
         x.weigh(3, -1);
         x.weigh(4, 5);
@@ -386,7 +358,7 @@ public final class PromiseTest {
         is("14 any", x.jury(4), 0b11111);
         is("14 what", x.jury(-1), BAD);
         is("14 what", x.jury(5), BAD);
-        PalmJury ten = jury(new int[10], new int[] {129, 131, 129, 145, 129, 129, 129, 129, 193, 128});
+        PalmJury ten = Acts.jury(new int[10], new int[] {129, 131, 129, 145, 129, 129, 129, 129, 193, 128});
         int[] ofTen = {128, 10, 0, 22, 0b11010011};
         for (int what = 0; what < 5; what++) {
             is("14 ten jurors", ten.jury(what), ofTen[what]);
@@ -425,7 +397,7 @@ public final class PromiseTest {
         for (int what = 0; what < 8; what++) {
             is("15 what " + what, thought[what], what < 3 ? x.jury(what) : x.told(what - 3, 2));
         }
-        PalmJury late = jury(new int[] {0, 0}, new int[] {1, 0});
+        PalmJury late = Acts.jury(new int[] {0, 0}, new int[] {1, 0});
         late.rule(2, 1);
         late.set(0, 2, 0);
         for (int i = 0; i < 100; i++) {
@@ -455,7 +427,7 @@ public final class PromiseTest {
     }
 
     private static void promise16() {
-        PalmJury x = jury(new int[] {0, 0}, new int[] {3, 3});
+        PalmJury x = Acts.jury(new int[] {0, 0}, new int[] {3, 3});
         is("16 already", x.allKnow(), 0);
         x.set(0, 2, 7);
         // Hour 0: both rest; hour 1: they meet.
@@ -472,35 +444,19 @@ public final class PromiseTest {
         is("16 hour", x.count(1), 0);
         is("16 slips", x.jury(2), 0);
         is("16 nobody", new PalmJury().allKnow(), 0);
-        PalmJury last = jury(new int[] {0, 0}, new int[] {1, 0});
+        PalmJury last = Acts.jury(new int[] {0, 0}, new int[] {1, 0});
         last.rule(1, 99);
-        last.seed(seedThatSlips(99));
+        last.seed(Acts.seedThatSlips(99));
         is("16 at the last", last.allKnow(), 200);
         last.rule(2, 1);
         is("16 with draws an hour sooner", last.allKnow(), 199);
-        last.seed(seedThatSlips(100));
+        last.seed(Acts.seedThatSlips(100));
         is("16 too late", last.allKnow(), NONE);
-    }
-
-    /** A seed whose draws slip by 99 so many times, and not once more: two jurors draw in every second hour. */
-    private static int seedThatSlips(int times) {
-        for (int seed = 0; seed < 1000000; seed++) {
-            int z = seed;
-            int slips = -1;
-            do {
-                z = z * 1103515245 + 12345;
-                slips++;
-            } while ((z >>> 8) % 100 < 99 && slips <= times);
-            if (slips == times) {
-                return seed;
-            }
-        }
-        return 0;
     }
 
     private static void promise17() {
         // With three jurors in hour 0: TURN 0 pairs 1 and 2, TURN 1 0 and 1, TURN 2 0 and 2.
-        PalmJury x = jury(new int[] {0, 0, 5}, new int[] {0, 1, 1});
+        PalmJury x = Acts.jury(new int[] {0, 0, 5}, new int[] {0, 1, 1});
         is("17 least of several", x.bestTurn(1, 0), 1);
         is("17 known", x.bestTurn(1, 1), 3);
         x.set(0, 2, 1);
@@ -510,7 +466,7 @@ public final class PromiseTest {
         x.set(2, 2, 0);
         is("17 with another turn now", x.bestTurn(1, 0), 0);
         is("17 turn stays", x.count(4), 4);
-        PalmJury ten = jury(new int[] {0, 0, 0, 0, 0, 0, 0, 0, 0, 5}, new int[] {1, 0, 0, 0, 0, 0, 0, 0, 0, 0});
+        PalmJury ten = Acts.jury(new int[] {0, 0, 0, 0, 0, 0, 0, 0, 0, 5}, new int[] {1, 0, 0, 0, 0, 0, 0, 0, 0, 0});
         for (int i = 1; i < 9; i++) {
             ten.set(i, 2, 1);
             ten.turns(i, 5);
@@ -526,7 +482,7 @@ public final class PromiseTest {
     }
 
     private static void promise18() {
-        PalmJury x = jury(new int[] {0, 0, 0}, new int[] {0b11, 0b10, 0b10});
+        PalmJury x = Acts.jury(new int[] {0, 0, 0}, new int[] {0b11, 0b10, 0b10});
         is("18 behind 60", x.behind(60, 0), 0b11);
         is("18 only one knows it", x.sure(60), 0b10);
         x.set(1, 2, 0b11);
@@ -539,12 +495,12 @@ public final class PromiseTest {
         is("18 slips", x.sure(60), 0);
         is("18 no slips yet", x.jury(2), 0);
         is("18 nobody", new PalmJury().sure(60), 255);
-        PalmJury one = jury(new int[] {0}, new int[] {9});
+        PalmJury one = Acts.jury(new int[] {0}, new int[] {9});
         is("18 one", one.sure(1), 9);
     }
 
     private static void promise19() {
-        PalmJury x = jury(new int[] {0, 0, 0}, new int[] {0, 0, 0});
+        PalmJury x = Acts.jury(new int[] {0, 0, 0}, new int[] {0, 0, 0});
         x.rule(0, 60);
         is("19 none helps", x.advocate(0, 0), 0);
         is("19 none helps", x.advocate(0, 1), 0);
@@ -563,7 +519,7 @@ public final class PromiseTest {
         x.weigh(5, 0);
         x.weigh(7, 10);
         is("19 the last", x.advocate(0, 0), 15);
-        PalmJury wise = jury(new int[] {0, 0}, new int[] {255, 255});
+        PalmJury wise = Acts.jury(new int[] {0, 0}, new int[] {255, 255});
         text(wise, "trust k*5");
         wise.rule(0, 41);
         is("19 there is no ninth fact", wise.advocate(0, 1), 0);
@@ -575,7 +531,7 @@ public final class PromiseTest {
     }
 
     private static void promise20() {
-        PalmJury x = jury(new int[] {0, 0, 0}, new int[] {0, 1, 0});
+        PalmJury x = Acts.jury(new int[] {0, 0, 0}, new int[] {0, 1, 0});
         x.weigh(0, 10);
         x.rule(0, 60);
         is("20 votes", x.behind(60, 1), 3);
@@ -599,7 +555,7 @@ public final class PromiseTest {
     }
 
     private static void promise21() {
-        PalmJury x = jury(new int[] {0, 0}, new int[] {0b001, 0b110});
+        PalmJury x = Acts.jury(new int[] {0, 0}, new int[] {0b001, 0b110});
         x.weigh(0, 40);
         x.weigh(2, -5);
         x.sheet(0, 0, 2);
@@ -635,7 +591,7 @@ public final class PromiseTest {
     }
 
     private static void promise22And23() {
-        PalmJury x = jury(new int[] {0, 0}, new int[] {3, 0});
+        PalmJury x = Acts.jury(new int[] {0, 0}, new int[] {3, 0});
         x.set(1, 3, 21);
         x.rule(1, 100);
         x.hours(4);
@@ -651,7 +607,7 @@ public final class PromiseTest {
         is("23 given", x.fine(1), -21);
         is("22 other", text(x, "fee 9999*9999*9999"), 2);
         is("22 wraps", x.fee(), 9999 * 9999 * 9999);
-        PalmJury first = jury(new int[] {0}, new int[] {0});
+        PalmJury first = Acts.jury(new int[] {0}, new int[] {0});
         is("23 the first text", text(first, "fine b+3"), 0);
         is("23 the first text", first.fine(0), 3);
         is("23 juror", x.fine(2), BAD);
@@ -680,7 +636,6 @@ public final class PromiseTest {
     }
 
     private static void promise26Faults() {
-        PalmJury x = new PalmJury();
         String[] wrong = {"", "   ", "fee", "fee ", "fees 1", "fe 1", "tru st 1", "FEE 1", " 5", "fee5", "fee 12345", "fee 1 2",
             "fee 5h", "fee k", "trust p", "fine h", "fee hs", "fee h s", "fee 1+", "fee +1", "fee -1", "fee 1<2<3", "fee 1=2=3",
             "fee (1<2)>3=1", "fee (1", "fee 1)", "fee ()", "fee (1 2)", "fee 1 | ", "fee |1", "fee 1&&1", "fee 1!", "fee !",
@@ -696,9 +651,11 @@ public final class PromiseTest {
             5, 0, 6, 0, 0, 0, 0, 5, 5, 3,
             3, 3, 4, 8, 8, 7, 6, 7, 5, 5, 6, 6};
         for (int i = 0; i < wrong.length; i++) {
+            PalmJury x = new PalmJury();
             is("26 " + wrong[i], text(x, wrong[i]), -100 - place[i]);
+            is("26 none came", x.count(6), 0);
         }
-        is("26 none came", x.count(6), 0);
+        PalmJury x = new PalmJury();
         is("26 as long as it goes", text(x, "fee " + "1+".repeat(46)), -196);
     }
 
@@ -732,7 +689,7 @@ public final class PromiseTest {
     }
 
     private static void trustText() {
-        PalmJury x = jury(new int[] {0, 1, 2, 3, 4, 5}, new int[] {7, 7, 7, 7, 7, 7});
+        PalmJury x = Acts.jury(new int[] {0, 1, 2, 3, 4, 5}, new int[] {7, 7, 7, 7, 7, 7});
         x.weigh(0, 5);
         x.weigh(2, -7);
         for (int i = 0; i < 6; i++) {
@@ -814,35 +771,30 @@ public final class PromiseTest {
         is("29 refused ones change nothing", x.item(0, 0), 0);
     }
 
-    private static int place(PalmJury x, int sheet, int place) {
-        x.lay(4, 2, sheet);
-        return x.item(4, place);
-    }
-
     private static void promise30() {
         PalmJury x = new PalmJury();
         x.sheet(0, 0, 3);
         x.sheet(1, 1, 3);
         is("30 short", x.mark(0, 2, 32767), 1);
-        is("30 short", place(x, 0, 2), 32767);
+        is("30 short", Acts.place(x, 0, 2), 32767);
         is("30 short wraps", x.mark(0, 0, 32768), 1);
-        is("30 short wraps", place(x, 0, 0), -32768);
+        is("30 short wraps", Acts.place(x, 0, 0), -32768);
         is("30 short wraps", x.mark(0, 0, LOW + 7), 1);
-        is("30 short wraps", place(x, 0, 0), 7);
+        is("30 short wraps", Acts.place(x, 0, 0), 7);
         is("30 kind", x.mark(0, 0, NONE), KIND);
         is("30 index first", x.mark(0, 3, NONE), INDEX);
         is("30 index", x.mark(0, -1, 0), INDEX);
         is("30 float", x.mark(1, 0, 99999), 1);
-        is("30 float", place(x, 1, 0), 99999);
+        is("30 float", Acts.place(x, 1, 0), 99999);
         is("30 float", x.mark(1, 0, -99999), 1);
-        is("30 float", place(x, 1, 0), -99999);
+        is("30 float", Acts.place(x, 1, 0), -99999);
         is("30 above", x.mark(1, 0, 100000), BAD);
         is("30 below", x.mark(1, 0, -100000), BAD);
         is("30 index first", x.mark(1, 3, 100000), INDEX);
         is("30 no number", x.mark(1, 0, NONE), 1);
-        is("30 no number", place(x, 1, 0), KIND);
+        is("30 no number", Acts.place(x, 1, 0), KIND);
         is("30 a number again", x.mark(1, 0, 3), 1);
-        is("30 a number again", place(x, 1, 0), 3);
+        is("30 a number again", Acts.place(x, 1, 0), 3);
         is("30 missing", x.mark(2, 99, 100000), NOTHING);
         is("30 sheet", x.mark(4, 0, 0), BAD);
         is("30 sheet", x.mark(-1, 0, 0), BAD);
@@ -879,7 +831,7 @@ public final class PromiseTest {
     }
 
     private static void promise32() {
-        PalmJury x = jury(new int[] {0, 0, 0}, new int[] {1, 0, 1});
+        PalmJury x = Acts.jury(new int[] {0, 0, 0}, new int[] {1, 0, 1});
         x.weigh(0, 10);
         x.rule(0, 60);
         x.sheet(0, 1, 4);
@@ -913,12 +865,12 @@ public final class PromiseTest {
         is("33 overlap", x.copy(0, 0, 0, 1, 3), 3);
         int[] then = {1, 1, 2, 3};
         for (int i = 0; i < 4; i++) {
-            is("33 overlap", place(x, 0, i), then[i]);
+            is("33 overlap", Acts.place(x, 0, i), then[i]);
         }
         is("33 overlap back", x.copy(0, 1, 0, 0, 3), 3);
-        is("33 overlap back", place(x, 0, 1), 2);
+        is("33 overlap back", Acts.place(x, 0, 1), 2);
         is("33 other", x.copy(0, 2, 1, 0, 2), 2);
-        is("33 other", place(x, 1, 0), 3);
+        is("33 other", Acts.place(x, 1, 0), 3);
         is("33 nothing", x.copy(0, 4, 1, 2, 0), 0);
         is("33 beyond", x.copy(0, 5, 1, 2, 0), INDEX);
         is("33 beyond", x.copy(0, 0, 1, 3, 0), INDEX);
@@ -939,11 +891,11 @@ public final class PromiseTest {
         x.sheet(3, 1, 1);
         x.mark(3, 0, NONE);
         is("33 no number", x.copy(3, 0, 2, 3, 1), 1);
-        is("33 no number", place(x, 2, 3), KIND);
+        is("33 no number", Acts.place(x, 2, 3), KIND);
     }
 
     private static void promise34() {
-        PalmJury x = jury(new int[] {1}, new int[] {0});
+        PalmJury x = Acts.jury(new int[] {1}, new int[] {0});
         x.sheet(0, 0, 1);
         is("34 juror", x.lay(0, 1, 0), 0);
         is("34 sheet", x.lay(0, 2, 0), 1);
@@ -1045,26 +997,17 @@ public final class PromiseTest {
         x.tell(1);
         is("39 no image", x.check(1), NO);
         is("39 none wait", x.count(7), 0);
-        x.seed(5);
-        x.deal(6);
-        x.weigh(3, 44);
-        text(x, "trust 40+w/2+k");
-        x.keep();
         int[] row = new int[60];
-        for (int i = 0; i < 30; i++) {
-            x.hours(1);
-            row[2 * i] = x.jury(3);
-            row[2 * i + 1] = x.jury(1);
-        }
-        text(x, "trust 0");
-        x.weigh(3, 0);
+        x = keptAndGoneOn(row);
         for (int n = 1; n <= 30; n++) {
-            say(x, row, 2 * n, -1);
-            is("39 right", x.check(n), 0);
+            PalmJury y = keptAndGoneOn(new int[60]);
+            say(y, row, 2 * n, -1);
+            is("39 right", y.check(n), 0);
         }
         for (int spoilt = 0; spoilt < 60; spoilt++) {
-            say(x, row, 60, spoilt);
-            is("39 spoilt", x.check(30), 1 + spoilt);
+            PalmJury y = keptAndGoneOn(new int[60]);
+            say(y, row, 60, spoilt);
+            is("39 spoilt", y.check(30), 1 + spoilt);
         }
         say(x, row, 9, -1);
         is("39 missing", x.check(5), 10);
@@ -1077,6 +1020,24 @@ public final class PromiseTest {
         is("39 z", x.told(0, 5), 0);
     }
 
+    /** A jury that has gone on from its image, with another law and weight; row becomes what its hours were. */
+    private static PalmJury keptAndGoneOn(int[] row) {
+        PalmJury x = new PalmJury();
+        x.seed(5);
+        x.deal(6);
+        x.weigh(3, 44);
+        Acts.text(x, "trust 40+w/2+k");
+        x.keep();
+        for (int i = 0; i < 30; i++) {
+            x.hours(1);
+            row[2 * i] = x.jury(3);
+            row[2 * i + 1] = x.jury(1);
+        }
+        Acts.text(x, "trust 0");
+        x.weigh(3, 0);
+        return x;
+    }
+
     private static void say(PalmJury x, int[] row, int many, int spoilt) {
         for (int i = 0; i < many; i++) {
             x.tell(row[i] + (i == spoilt ? 1 : 0));
@@ -1084,7 +1045,7 @@ public final class PromiseTest {
     }
 
     private static void promise39Edges() {
-        PalmJury x = jury(new int[] {0}, new int[] {1});
+        PalmJury x = Acts.jury(new int[] {0}, new int[] {1});
         for (int i = 0; i < 99; i++) {
             x.hours(100);
         }
@@ -1152,7 +1113,7 @@ public final class PromiseTest {
     }
 
     private static void promise42() {
-        PalmJury x = jury(new int[] {0, 0, 4}, new int[] {1, 0, 0});
+        PalmJury x = Acts.jury(new int[] {0, 0, 4}, new int[] {1, 0, 0});
         x.weigh(0, -1);
         x.rule(0, 49);
         x.rule(1, 7);
