@@ -277,12 +277,12 @@ public final class PalmJury {
         }
         thought.become(now);
         int best = 0;
-        int least = Integer.MAX_VALUE;
+        int least = -1;
         for (int fact = 0; fact < MOST_FACTS; fact++) {
             thought.weight[fact] = Math.min(now.weight[fact] + 20, MOST_WEIGHT);
             int apart = apart(thought, sheets[sheet]);
             thought.weight[fact] = now.weight[fact];
-            if (apart < least) {
+            if (least < 0 || apart < least) {
                 least = apart;
                 best = fact;
             }

@@ -90,7 +90,8 @@ public final class FaceTest {
 
     private static void words(Due due, String code) {
         String[] ruledOut = {"throw", "throws", "try", "catch", "synchronized", "assert", "import", "package", "double", "float",
-            "Exact", "Object", "System\\.(?!arraycopy)", "static \\{", "->", "::", "hashCode", "toString", "Exception"};
+            "Exact", "Object", "System\\.(?!arraycopy)", "static \\{", "->", "::", "hashCode", "toString", "Exception",
+            "(Integer|Long|Math)\\.(?![a-z])"};
         for (String word : ruledOut) {
             boolean letters = Character.isLetter(word.charAt(0)) && Character.isLetter(word.charAt(word.length() - 1));
             Pattern p = Pattern.compile(letters && !word.equals("Exact") && !word.equals("Exception") ? "\\b" + word + "\\b" : word);
