@@ -2,7 +2,8 @@ import java.lang.management.ManagementFactory;
 
 /** All calls of a run live in one room: the constructor makes what is needed, and the dearest calls make next to nothing more. */
 public final class RoomTest {
-    private static final int CALLS = 512;
+    // Two of each twelve steps are two calls: with the first one some 500, of the 512 that an object answers.
+    private static final int CALLS = 432;
     private static final long MOST_AT_FIRST = 64 * 1024, MOST_A_CALL = 64;
 
     public static void main(String[] args) {
